@@ -76,7 +76,9 @@ public final class DeskTest {
         Kit.due("4: another desk, no changes", x.count(11), 0);
         Kit.due("4: words of the other are gone", x.count(6), 0);
         Kit.due("4: empty in place of it", x.desk(), 0);
-        Kit.due("4: there is none then", x.count(0), 0);
+        for (int what = 0; what <= 12; what++) {
+            Kit.due("4: there is none then, count(" + what + ")", x.count(what), 0);
+        }
         Kit.due("4: nor a hearer", x.mean(0, 1), -2);
         Kit.type(x, HEAD);
         Kit.due("4: without grades", x.desk(), 1);
@@ -131,6 +133,9 @@ public final class DeskTest {
         faulty("desk states 2 really 0 days 1 heal 0 leak 0 ;\r", 1, 45);
         faulty("desks states 2", 1, 0);
         faulty("des", 1, 0);
+        faulty("xesk states 2 really 0 days 1 heal 0 leak 0;", 1, 0);
+        faulty("desx states 2 really 0 days 1 heal 0 leak 0;", 1, 0);
+        faulty("desk xtates 2 really 0 days 1 heal 0 leak 0;", 1, 5);
         faulty("deskstates 2", 1, 0);
         faulty(";", 1, 0);
         faulty("7", 1, 0);
