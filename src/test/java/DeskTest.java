@@ -176,6 +176,10 @@ public final class DeskTest {
         behindHead("grades 1 2 300;", 1, 11);
         behindHead("grades 1 100;", 2, 9);
         behindHead("grades 99 99", 1, 12);
+        behindHead("hearer ;", 1, 7);
+        behindHead("word ;", 1, 5);
+        behindHead("news ;", 1, 5);
+        behindHead("tells ;", 1, 6);
         behindHead("hearer 1 2;", 1, 7);
         behindHead("hearer thinks 1;", 1, 15);
         behindHead("hearer thinks 1 reckons 2;", 1, 16);

@@ -145,6 +145,13 @@ public final class LeastTest {
         Kit.due("40: shock(2)", x.shock(2), -2);
         GentleLetters y = Kit.told("desk states 3 really 0 days 1 heal 0 leak 0; grades 1 9 9; hearer thinks 3 1 1;");
         Kit.due("40: the first of several", y.shock(0), 1);
+        // a rise of 14 is 196 squared, 1 by 100; one of 5 is 25, by 100 nothing
+        GentleLetters z = Kit.told("desk states 2 really 0 days 1 heal 0 leak 0; grades 0 1;"
+                + "hearer thinks 3 20; hearer thinks 1 20;");
+        Kit.due("40: the least hurt", z.shock(0), 1);
+        Kit.due("39: the least hurt", z.calm(0, 3), 1);
+        Kit.due("40: none at all", z.shock(1), 0);
+        Kit.due("39: none at all", z.calm(1, 3), 3);
     }
 
     private static void statesAndWords() {
