@@ -854,6 +854,7 @@ public final class GentleLetters {
         private static final int A_NUMBER = 2;
         private static final int A_SEMICOLON = 3;
         private static final int NO_TOKEN = 4;
+        private static final int A_BLANK = 5;
         /** Above every bound of the text, and small enough for one more digit. */
         private static final int HUGE = 1_000_000;
 
@@ -878,34 +879,20 @@ public final class GentleLetters {
 
         private void advance() {
             start = stop;
-            while (start < size && isBlank(bytes[start])) {
+            while (start < size && kindOf(bytes[start]) == A_BLANK) {
                 start++;
             }
             stop = start;
-            if (start >= size) {
-                kind = AT_END;
-            } else if (isLetter(bytes[start])) {
-                kind = A_WORD;
-                passLetters();
-            } else if (isDigit(bytes[start])) {
-                kind = A_NUMBER;
-                passDigits();
-            } else {
-                kind = bytes[start] == ';' ? A_SEMICOLON : NO_TOKEN;
-                stop = start + 1;
-            }
-        }
-
-        private void passLetters() {
-            while (stop < size && isLetter(bytes[stop])) {
-                stop++;
-            }
-        }
-
-        private void passDigits() {
+            kind = start < size ? kindOf(bytes[start]) : AT_END;
             number = 0;
-            while (stop < size && isDigit(bytes[stop])) {
-                number = Math.min(HUGE, number * 10 + bytes[stop] - '0');
+            if (kind == A_SEMICOLON || kind == NO_TOKEN) {
+                stop = start + 1;
+                return;
+            }
+            while (stop < size && kindOf(bytes[stop]) == kind) {
+                if (kind == A_NUMBER) {
+                    number = Math.min(HUGE, number * 10 + bytes[stop] - '0');
+                }
                 stop++;
             }
         }
@@ -922,16 +909,17 @@ public final class GentleLetters {
             return true;
         }
 
-        private static boolean isBlank(byte sign) {
-            return sign == ' ' || sign == '\n';
-        }
-
-        private static boolean isLetter(byte sign) {
-            return sign >= 'a' && sign <= 'z';
-        }
-
-        private static boolean isDigit(byte sign) {
-            return sign >= '0' && sign <= '9';
+        private static int kindOf(byte sign) {
+            if (sign >= 'a' && sign <= 'z') {
+                return A_WORD;
+            }
+            if (sign >= '0' && sign <= '9') {
+                return A_NUMBER;
+            }
+            if (sign == ' ' || sign == '\n') {
+                return A_BLANK;
+            }
+            return sign == ';' ? A_SEMICOLON : NO_TOKEN;
         }
     }
 
@@ -1304,7 +1292,7 @@ public final class GentleLetters {
         }
 
         private boolean isTrue(int word) {
-            return (meanings[word] & truth()) != 0;
+            return (meanings[word] >> really & 1) == 1;
         }
 
         private int shameOf(int word) {
