@@ -1168,7 +1168,7 @@ public final class GentleLetters {
             }
         }
 
-        private void copyFrom(Log other) {
+        private void takeAll(Log other) {
             System.arraycopy(other.kinds, 0, kinds, 0, MOST_CHANGES);
             System.arraycopy(other.places, 0, places, 0, MOST_CHANGES);
             System.arraycopy(other.olds, 0, olds, 0, MOST_CHANGES);
@@ -1236,7 +1236,7 @@ public final class GentleLetters {
             System.arraycopy(other.planSizes, 0, planSizes, 0, MOST_PLANS);
             System.arraycopy(other.planWords, 0, planWords, 0, MOST_PLANS * MOST_PLAN_WORDS);
             System.arraycopy(other.tidings, 0, tidings, 0, MOST_NEWS);
-            log.copyFrom(other.log);
+            log.takeAll(other.log);
         }
 
         private boolean stands() {

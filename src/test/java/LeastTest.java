@@ -1,230 +1,247 @@
-/** Promises 26 to 34 and 36 to 48: the least and gentlest weeks, all at once, and leaks ahead. */
-public final class LeastTest {
-    /** Lies that win nothing: none lies between what is believed at first and what is so. */
-    private static final String VAIN_LIES =
-            "desk states 3 really 2 days 3 heal 0 leak 50; grades 0 40 80; hearer thinks 1 1 1;"
-            + "word shame 7 of 2; word shame 9 of 1 0; word shame 3 of 1;";
+/** Of term III, and promises 26 to 34 and 36: the least and the gentlest weeks; each sentence by a test of its own. */
+public final class LeastTest extends Kit {
+    /** 677 at first, 5000 by the lie, 9900 by the truth: a lie on the way softens the step. */
+    private static final String LIE = "grades 0 50 99;hearer thinks 20 1 1;word shame 100 of 2;word shame 999 of 1;";
+    private static final int STRAIGHT = 9223 * 9223 / 100;
+    private static final int TO_LIE = 4323 * 4323 / 100;
+    private static final int TO_TRUTH = 4900 * 4900 / 100;
+    /** By one word it is never known, by both it is. */
+    private static final String TWO_WORDS = "grades 5 6 7;hearer thinks 1 1 1;word shame 1 of 0 1;word shame 1 of 1 2;";
+    /** True words never part 0 from 1. */
+    private static final String NEVER_TRULY = "grades 0 10 20;hearer thinks 1 1 1;word shame 4 of 0 1;word shame 5 of 1 2;";
 
     public static void main(String[] args) {
-        leastWeeks();
-        liesThatSoften();
-        weeksThatAreNone();
-        allAtOnce();
-        statesAndWords();
-        evenSteps();
-        leaksAhead();
-        noDesk();
-        Kit.finish();
+        costs();
+        leastAndFirst();
+        gentlestTerm();
+        rest();
+        least();
+        step();
+        truly();
+        honest();
+        gentlest();
+        gently();
+        tender();
+        tenderly();
+        fewest();
+        finish();
     }
 
-    private static void leastWeeks() {
-        GentleLetters x = Kit.told(Kit.SAMPLE);
-        Kit.due("27: 63000 and 72000", x.least(0), 135000);
-        int[] first = {0, 1, 0, 0};
-        int[] gentle = {0, 0, 0, 1};
-        for (int day = 0; day < 4; day++) {
-            Kit.due("28: step(0, " + day + ")", x.step(0, day), first[day]);
-            Kit.due("30: honest(0, " + day + ")", x.honest(0, day), first[day]);
-            Kit.due("32: gently(0, " + day + ")", x.gently(0, day), gentle[day]);
-            Kit.due("34: tenderly(0, " + day + ")", x.tenderly(0, day), gentle[day]);
-            Kit.due("28: step(1, " + day + ")", x.step(1, day), gentle[day]);
+    /** The words of a week day by day, as one number. */
+    private static int digits(int days, HearerCall wordOnDay, GentleLetters x) {
+        int all = 0;
+        for (int day = 0; day < days; day++) {
+            all = all * 10 + wordOnDay.of(x, day);
         }
-        Kit.due("27: least(1)", x.least(1), 0);
-        Kit.due("29: truly(0)", x.truly(0), 135000);
-        Kit.due("31: gentlest(0)", x.gentlest(0), 90000);
-        Kit.due("33: tender(0)", x.tender(0), 90000);
-        Kit.due("26: rest(0)", x.rest(0), 0);
-        Kit.due("36: fewest()", x.fewest(), 1);
-        Kit.due("42: idle()", x.idle(), 4);
-        Kit.due("43: enough(0)", x.enough(0), 4);
-        Kit.due("43: enough(1)", x.enough(1), 1);
-        for (int hearer = -1; hearer <= 2; hearer += 3) {
-            Kit.due("26: rest of none", x.rest(hearer), -2);
-            Kit.due("27: least of none", x.least(hearer), -2);
-            Kit.due("28: step of none", x.step(hearer, 0), -2);
-            Kit.due("29: truly of none", x.truly(hearer), -2);
-            Kit.due("30: honest of none", x.honest(hearer, 0), -2);
-            Kit.due("31: gentlest of none", x.gentlest(hearer), -2);
-            Kit.due("32: gently of none", x.gently(hearer, 0), -2);
-            Kit.due("33: tender of none", x.tender(hearer), -2);
-            Kit.due("34: tenderly of none", x.tenderly(hearer, 0), -2);
-            Kit.due("43: enough of none", x.enough(hearer), -2);
+        return all;
+    }
+
+    private static GentleLetters lie(int days, int heal) {
+        return told(head(3, 2, days, heal, 0) + LIE);
+    }
+
+    /** 13 at first: 349 straight to 200; 75 and 100 by a lie of 100, and its shame. */
+    private static GentleLetters smallLie(int days, int heal, int shame) {
+        return told(head(3, 2, days, heal, 0) + "grades 0 1 2;hearer thinks 20 1 1;word shame 0 of 2;word shame "
+                + shame + " of 1;");
+    }
+
+    private static void costs() {
+        term("III", "COST of a WEEK of all days for a HEARER: LEFT of all HURTS and all shame");
+        due("75, 100 and a shame of 173", smallLie(3, 0, 173).least(0), 348);
+        due("75, 100 and a shame of 175 are more than 349", smallLie(3, 0, 175).least(0), 349);
+        due("half of 75 is 37, 100, 36: less than half of 349", smallLie(2, 50, 36).least(0), 173);
+        due("37, 100, 38: more than 174", smallLie(2, 50, 38).least(0), 174);
+        due("the shame of a true word is not paid", lie(1, 0).least(0), STRAIGHT);
+    }
+
+    private static void leastAndFirst() {
+        term("III", "LEAST: of those by which it is KNOWN at the END");
+        due("silence would cost nothing", lie(1, 0).least(0), STRAIGHT);
+        GentleLetters x = told(head(3, 1, 2, 0, 0) + TWO_WORDS);
+        due("600 to 600, by 550 or 650: 25", x.least(0), 25);
+        due("on one day not", told(head(3, 1, 1, 0, 0) + TWO_WORDS).least(0), -1);
+        term("III", "the first: the least row (SILENCE is the greatest).");
+        GentleLetters equal = smallLie(3, 0, 174);
+        due("349 either way", equal.least(0), 349);
+        due("0 0 0 is less than 1 0 0", digits(3, (y, day) -> y.step(0, day), equal), 0);
+        due("0 0 0 is less than 0 8 8", digits(3, (y, day) -> y.step(0, day), lie(3, 0)), 100);
+        GentleLetters calm = told(SAMPLE);
+        due("nothing hurts her: known by the last word", digits(4, (y, day) -> y.step(1, day), calm), 1);
+    }
+
+    private static void gentlestTerm() {
+        term("III", "GENTLEST: the least that the greatest HURT (not LEFT) is so, shame aside.");
+        due("the greater of the two, without 999", lie(4, 0).gentlest(0), TO_TRUTH);
+        due("not what is left of it", lie(4, 100).gentlest(0), TO_TRUTH);
+        due("all is healed but on the last day", lie(4, 100).least(0), 0);
+        due("one day: straight", lie(1, 0).gentlest(0), STRAIGHT);
+    }
+
+    private static void rest() {
+        says(26, "The most days of SILENCE one behind the other in the first LEAST WEEK (III).");
+        // whatever is said on such a day instead, a true word said before, is less than silence
+        due("the sample", told(SAMPLE).rest(0), 0);
+        due("she whom nothing hurts", told(SAMPLE).rest(1), 0);
+        due("ten days, a lie on the way", lie(10, 0).rest(0), 0);
+        due("ten days, healed", lie(10, 100).rest(0), 0);
+        says(26, "NONE: there is none");
+        due("by one word never", told(head(3, 1, 1, 0, 0) + TWO_WORDS).rest(0), -1);
+        due("no words", told(head(2, 0, 3, 0, 0) + "hearer thinks 1 1;").rest(0), -1);
+        says(26, "-2: there is no such HEARER.");
+        refusesHearers((x, hearer) -> x.rest(hearer));
+    }
+
+    private static void least() {
+        says(27, "LEAST (III) of a HEARER.");
+        due("63000 and 72000", told(SAMPLE).least(0), 135000);
+        due("hearer 1", told(SAMPLE).least(1), 0);
+        due("by a lie", lie(4, 0).least(0), TO_LIE + TO_TRUTH + 999);
+        due("by a lie on ten days", lie(10, 0).least(0), TO_LIE + TO_TRUTH + 999);
+        due("by a lie, half of the first healed", lie(2, 50).least(0), TO_LIE / 2 + TO_TRUTH + 999);
+        says(27, "NONE: by no WEEK it is KNOWN");
+        due("one day, two words", told(head(3, 1, 1, 0, 0) + TWO_WORDS).least(0), -1);
+        due("no words", told(head(2, 0, 3, 0, 0) + "hearer thinks 1 1;").least(0), -1);
+        GentleLetters x = told(SAMPLE);
+        x.really(1);
+        due("1 stands in no word but with 2", x.least(0), -1);
+        says(27, "-2: there is none such.");
+        refusesHearers((y, hearer) -> y.least(hearer));
+    }
+
+    private static void step() {
+        says(28, "The WORD (8: SILENCE) on a day by the first such.");
+        due("the sample", digits(4, (x, day) -> x.step(0, day), told(SAMPLE)), 100);
+        due("hearer 1", digits(4, (x, day) -> x.step(1, day), told(SAMPLE)), 1);
+        due("the lie, the truth, and so on", digits(4, (x, day) -> x.step(0, day), lie(4, 0)), 1000);
+        due("one day", lie(1, 0).step(0, 0), 0);
+        due("healed: the truth at once", digits(3, (x, day) -> x.step(0, day), lie(3, 100)), 0);
+        says(28, "NONE likewise");
+        GentleLetters never = told(head(3, 1, 1, 0, 0) + TWO_WORDS);
+        due("day 0", never.step(0, 0), -1);
+        says(28, "-2: there are none such.");
+        refusesHearers((x, hearer) -> x.step(hearer, 0));
+        GentleLetters x = told(SAMPLE);
+        due("day -1", x.step(0, -1), -2);
+        due("day 4", x.step(0, 4), -2);
+        due("day MAX", x.step(0, Integer.MAX_VALUE), -2);
+        due("no week, day 1", never.step(0, 1), -2);
+        due("day 9 of ten", lie(10, 0).step(0, 9), 0);
+        due("day 10 of ten", lie(10, 0).step(0, 10), -2);
+    }
+
+    private static void truly() {
+        says(29, "LEAST by TRUE WORDS (and SILENCE) alone.");
+        due("without the lie", lie(4, 0).truly(0), STRAIGHT);
+        due("a quarter of it healed a day, on day 0", lie(4, 25).truly(0), STRAIGHT * 25 / 100);
+        due("the sample", told(SAMPLE).truly(0), 135000);
+        says(29, "NONE, -2 likewise.");
+        due("0 and 1 are not parted", told(head(3, 0, 3, 0, 0) + NEVER_TRULY).truly(0), -1);
+        due("no words", told(head(2, 0, 3, 0, 0) + "hearer thinks 1 1;").truly(0), -1);
+        refusesHearers((x, hearer) -> x.truly(hearer));
+    }
+
+    private static void honest() {
+        says(30, "The WORD on a day by the first such.");
+        due("the truth at once", digits(4, (x, day) -> x.honest(0, day), lie(4, 0)), 0);
+        due("the sample", digits(4, (x, day) -> x.honest(0, day), told(SAMPLE)), 100);
+        GentleLetters last = told(head(3, 2, 3, 0, 0) + "grades 0 50 99;hearer thinks 20 1 1;word shame 9 of 0;"
+                + "word shame 9 of 1;word shame 9 of 2;");
+        due("word 2 alone is true", digits(3, (x, day) -> x.honest(0, day), last), 222);
+        says(30, "NONE, -2 likewise.");
+        GentleLetters never = told(head(3, 0, 3, 0, 0) + NEVER_TRULY);
+        due("no week", never.honest(0, 2), -1);
+        due("no week, day 3", never.honest(0, 3), -2);
+        GentleLetters x = told(SAMPLE);
+        due("day -1", x.honest(0, -1), -2);
+        due("day 4", x.honest(0, 4), -2);
+        refusesHearers((y, hearer) -> y.honest(hearer, 0));
+    }
+
+    private static void gentlest() {
+        says(31, "GENTLEST (III).");
+        due("the sample", told(SAMPLE).gentlest(0), 90000);
+        due("hearer 1", told(SAMPLE).gentlest(1), 0);
+        due("by a lie", lie(2, 0).gentlest(0), TO_TRUTH);
+        says(31, "NONE, -2 likewise.");
+        due("one day, two words", told(head(3, 1, 1, 0, 0) + TWO_WORDS).gentlest(0), -1);
+        refusesHearers((x, hearer) -> x.gentlest(hearer));
+    }
+
+    private static void gently() {
+        says(32, "The WORD on a day by the first such WEEK.");
+        // 0 0 0 1: any row of 0 ahead of the last 1 hurts 90000 at most
+        due("the sample", digits(4, (x, day) -> x.gently(0, day), told(SAMPLE)), 1);
+        // the lie may come on any day: first the truth would hurt too much, so it is 1 0 0 0
+        due("by a lie", digits(4, (x, day) -> x.gently(0, day), lie(4, 0)), 1000);
+        // the greatest hurt is had on day 1 at the latest; ahead of it the least words that do no worse
+        GentleLetters x = told(head(3, 2, 3, 0, 0) + "grades 0 40 80;hearer thinks 1 1 1;word shame 9 of 1 0;"
+                + "word shame 9 of 1;word shame 9 of 2;");
+        due("0 hurts not, then 1 by 40000, 2 by 160000", x.gentlest(0), 160000);
+        due("0 1 2: less than 1 .. and 2 ..", digits(3, (y, day) -> y.gently(0, day), x), 12);
+        says(32, "NONE, -2 likewise.");
+        GentleLetters never = told(head(3, 1, 1, 0, 0) + TWO_WORDS);
+        due("no week", never.gently(0, 0), -1);
+        due("no week, day 1", never.gently(0, 1), -2);
+        GentleLetters sample = told(SAMPLE);
+        due("day -1", sample.gently(0, -1), -2);
+        due("day 4", sample.gently(0, 4), -2);
+        refusesHearers((y, hearer) -> y.gently(hearer, 0));
+    }
+
+    private static void tender() {
+        says(33, "GENTLEST by TRUE WORDS (and SILENCE) alone.");
+        due("without the lie", lie(4, 0).tender(0), STRAIGHT);
+        due("not what is left", lie(4, 100).tender(0), STRAIGHT);
+        due("the sample", told(SAMPLE).tender(0), 90000);
+        says(33, "NONE, -2 likewise.");
+        due("0 and 1 are not parted", told(head(3, 0, 3, 0, 0) + NEVER_TRULY).tender(0), -1);
+        refusesHearers((x, hearer) -> x.tender(hearer));
+    }
+
+    private static void tenderly() {
+        says(34, "The WORD on a day by the first such WEEK.");
+        due("the truth", digits(4, (x, day) -> x.tenderly(0, day), lie(4, 0)), 0);
+        due("the sample", digits(4, (x, day) -> x.tenderly(0, day), told(SAMPLE)), 1);
+        GentleLetters last = told(head(3, 2, 3, 0, 0) + "grades 0 50 99;hearer thinks 20 1 1;word shame 9 of 0;"
+                + "word shame 9 of 1;word shame 9 of 2;");
+        due("word 2 alone is true", digits(3, (x, day) -> x.tenderly(0, day), last), 222);
+        says(34, "NONE, -2 likewise.");
+        GentleLetters never = told(head(3, 0, 3, 0, 0) + NEVER_TRULY);
+        due("no week", never.tenderly(0, 0), -1);
+        due("no week, day 3", never.tenderly(0, 3), -2);
+        GentleLetters x = told(SAMPLE);
+        due("day -1", x.tenderly(0, -1), -2);
+        due("day 4", x.tenderly(0, 4), -2);
+        refusesHearers((y, hearer) -> y.tenderly(hearer, 0));
+    }
+
+    /** Each of seven words leaves one state out: all seven are needed. */
+    private static String allButOne() {
+        StringBuilder text = new StringBuilder();
+        for (int out = 0; out < 7; out++) {
+            text.append("word shame 0 of");
+            for (int state = 0; state < 8; state++) {
+                text.append(state == out ? "" : " " + state);
+            }
+            text.append(';');
         }
-        for (int day = -1; day <= 4; day += 5) {
-            Kit.due("28: step on day " + day, x.step(0, day), -2);
-            Kit.due("30: honest on day " + day, x.honest(0, day), -2);
-            Kit.due("32: gently on day " + day, x.gently(0, day), -2);
-            Kit.due("34: tenderly on day " + day, x.tenderly(0, day), -2);
-        }
+        return text.toString();
     }
 
-    private static void liesThatSoften() {
-        GentleLetters x = Kit.told(VAIN_LIES);
-        // 4000 to 8000 at once is 160000. Words 1, 2: 3 believed is 2000, 2 is 4000: nothing is won by them
-        Kit.due("27: least(0)", x.least(0), 160000);
-        Kit.due("28: true words alone, the least row", x.step(0, 0) * 100 + x.step(0, 1) * 10 + x.step(0, 2), 0);
-        Kit.due("31: gentlest(0)", x.gentlest(0), 160000);
-        // 0 1 1 and 0 1 8 are not known at the end; all rows that end with 0 and hurt no more than 160000:
-        // 0 0 0 is the least
-        Kit.due("32: gently", x.gently(0, 0) * 100 + x.gently(0, 1) * 10 + x.gently(0, 2), 0);
-        Kit.due("42: words never used", x.idle(), 6);
-        // from 677 to 9900 a lie of 5000 halves the step
-        GentleLetters y = Kit.told("desk states 3 really 2 days 4 heal 0 leak 0; grades 0 50 99; hearer thinks 20 1 1;"
-                + "word shame 100 of 2; word shame 999 of 1;");
-        int all = 100 * 149 / 22;
-        int straight = (9900 - all) * (9900 - all) / 100;
-        int first = (5000 - all) * (5000 - all) / 100;
-        int second = 4900 * 4900 / 100;
-        Kit.due("27: by a lie, shame paid", y.least(0), first + second + 999);
-        Kit.due("28: the lie first", y.step(0, 0), 1);
-        Kit.due("28: then the truth", y.step(0, 1), 0);
-        Kit.due("28: and so on", y.step(0, 3), 0);
-        Kit.due("29: truly", y.truly(0), straight);
-        Kit.due("30: honest", y.honest(0, 0), 0);
-        Kit.due("31: gentlest, shame aside", y.gentlest(0), Math.max(first, second));
-        Kit.due("32: gently: the lie must come first", y.gently(0, 0), 1);
-        Kit.due("32: then the truth may", y.gently(0, 1), 0);
-        Kit.due("33: tender", y.tender(0), straight);
-        Kit.due("34: tenderly", y.tenderly(0, 0), 0);
-        Kit.due("42: none is idle", y.idle(), 0);
-        Kit.due("43: two days are enough", y.enough(0), 2);
-    }
-
-    private static void weeksThatAreNone() {
-        // known by the two words together alone
-        GentleLetters x = Kit.told("desk states 3 really 1 days 2 heal 0 leak 0; grades 5 6 7; hearer thinks 1 1 1;"
-                + "word shame 1 of 0 1; word shame 1 of 1 2;");
-        Kit.due("36: two words", x.fewest(), 2);
-        Kit.due("41: 0 and 2 can't be told", x.unsaid(), 5);
-        Kit.due("27: least", x.least(0), 25);
-        GentleLetters y = Kit.told("desk states 3 really 1 days 1 heal 0 leak 0; grades 5 6 7; hearer thinks 1 1 1;"
-                + "word shame 1 of 0 1; word shame 1 of 1 2;");
-        Kit.due("36: one day is too few", y.fewest(), -1);
-        Kit.due("26: rest", y.rest(0), -1);
-        Kit.due("27: least", y.least(0), -1);
-        Kit.due("28: step", y.step(0, 0), -1);
-        Kit.due("28: no such day all the same", y.step(0, 1), -2);
-        Kit.due("29: truly", y.truly(0), -1);
-        Kit.due("30: honest", y.honest(0, 0), -1);
-        Kit.due("31: gentlest", y.gentlest(0), -1);
-        Kit.due("32: gently", y.gently(0, 0), -1);
-        Kit.due("33: tender", y.tender(0), -1);
-        Kit.due("34: tenderly", y.tenderly(0, 0), -1);
-        Kit.due("43: enough", y.enough(0), -1);
-        Kit.due("42: all words idle", y.idle(), 3);
-        Kit.due("41: the days do not matter there", y.unsaid(), 5);
-        // 0 stands in no word but with 1, and no other word parts them
-        GentleLetters z = Kit.told("desk states 3 really 0 days 3 heal 0 leak 0; grades 0 10 20; hearer thinks 1 1 1;"
-                + "word shame 4 of 0 1; word shame 5 of 1 2; word shame 6 of 2;");
-        Kit.due("29: never truly", z.truly(0), -1);
-        Kit.due("33: never tenderly", z.tender(0), -1);
-        Kit.due("27: nor by lies", z.least(0), -1);
-    }
-
-    private static void allAtOnce() {
-        GentleLetters x = Kit.told(Kit.SAMPLE);
-        Kit.due("37: once(0)", x.once(0), 360000);
-        Kit.due("37: once(1)", x.once(1), 0);
-        Kit.due("37: once(2)", x.once(2), -2);
-        Kit.due("38: late(0, 360000)", x.late(0, 360000), 3);
-        Kit.due("38: late(0, 359999)", x.late(0, 359999), 2);
-        Kit.due("38: late(0, 324000)", x.late(0, 324000), 2);
-        Kit.due("38: late(0, 252000)", x.late(0, 252000), 0);
-        Kit.due("38: late(0, 251999)", x.late(0, 251999), -1);
-        Kit.due("38: late(1, 0)", x.late(1, 0), 3);
-        Kit.due("38: late(0, -1)", x.late(0, -1), -2);
-        Kit.due("38: late(2, 0)", x.late(2, 0), -2);
-        Kit.due("39: calm(0, 7)", x.calm(0, 7), 3);
-        Kit.due("39: calm(0, 1)", x.calm(0, 1), 1);
-        Kit.due("39: calm(1, 7)", x.calm(1, 7), 7);
-        Kit.due("39: calm(0, 0)", x.calm(0, 0), -2);
-        Kit.due("39: calm(0, 8)", x.calm(0, 8), -2);
-        Kit.due("39: calm(2, 7)", x.calm(2, 7), -2);
-        Kit.due("40: shock(0)", x.shock(0), 2);
-        Kit.due("40: shock(1), all alike: the first", x.shock(1), 0);
-        Kit.due("40: shock(2)", x.shock(2), -2);
-        GentleLetters y = Kit.told("desk states 3 really 0 days 1 heal 0 leak 0; grades 1 9 9; hearer thinks 3 1 1;");
-        Kit.due("40: the first of several", y.shock(0), 1);
-        // a rise of 14 is 196 squared, 1 by 100; one of 5 is 25, by 100 nothing
-        GentleLetters z = Kit.told("desk states 2 really 0 days 1 heal 0 leak 0; grades 0 1;"
-                + "hearer thinks 3 20; hearer thinks 1 20;");
-        Kit.due("40: the least hurt", z.shock(0), 1);
-        Kit.due("39: the least hurt", z.calm(0, 3), 1);
-        Kit.due("40: none at all", z.shock(1), 0);
-        Kit.due("39: none at all", z.calm(1, 3), 3);
-    }
-
-    private static void statesAndWords() {
-        GentleLetters x = Kit.told(Kit.SAMPLE);
-        // 0 by word 2; 1 is in word 0 alone, with 2; 2 by word 1
-        Kit.due("41: unsaid()", x.unsaid(), 2);
-        GentleLetters y = Kit.told("desk states 2 really 0 days 1 heal 0 leak 0;");
-        Kit.due("41: no words", y.unsaid(), 3);
-        Kit.due("42: no words", y.idle(), 0);
-        Kit.due("36: no words", y.fewest(), -1);
-        GentleLetters z = Kit.told("desk states 2 really 0 days 1 heal 0 leak 0; word shame 0 of 0; word shame 0 of 1;");
-        Kit.due("42: no hearers, all words idle", z.idle(), 3);
-        Kit.due("41: both can be told", z.unsaid(), 0);
-    }
-
-    private static void evenSteps() {
-        GentleLetters x = new GentleLetters();
-        Kit.due("44: even(10, 3)", x.even(10, 3), 34);
-        Kit.due("44: even(10000, 1)", x.even(10000, 1), 100000000);
-        Kit.due("44: even(3, 100)", x.even(3, 100), 3);
-        Kit.due("44: even(10001, 1)", x.even(10001, 1), -2);
-        Kit.due("44: even(-1, 1)", x.even(-1, 1), -2);
-        Kit.due("44: even(1, 0)", x.even(1, 0), -2);
-        Kit.due("44: even(1, 101)", x.even(1, 101), -2);
-        Kit.due("45: steps(10, 7)", x.steps(10, 7), 4);
-        Kit.due("45: steps(10, 0): ten ones, no less", x.steps(10, 0), 10);
-        Kit.due("45: steps(10000, 0)", x.steps(10000, 0), 100);
-        Kit.due("45: steps(10000, 100000)", x.steps(10000, 100000), 32);
-        Kit.due("45: steps(0, 0), the least", x.steps(0, 0), 1);
-        Kit.due("45: steps(2, 2): 4 and 2, 2 and 4", x.steps(2, 2), 1);
-        Kit.due("45: steps(10001, 0)", x.steps(10001, 0), -2);
-        Kit.due("45: steps(-1, 0)", x.steps(-1, 0), -2);
-        Kit.due("45: steps(0, -1)", x.steps(0, -1), -2);
-        Kit.due("45: steps(0, 100001)", x.steps(0, 100001), -2);
-    }
-
-    private static void leaksAhead() {
-        GentleLetters x = Kit.told(Kit.SAMPLE);
-        Kit.due("46: risk(0)", x.risk(0), 135000);
-        Kit.due("46: risk(1)", x.risk(1), 0);
-        Kit.due("46: risk(2)", x.risk(2), -2);
-        Kit.due("47: now(0, 0, 7)", x.now(0, 0, 7), 0);
-        Kit.due("47: now(0, 1, 7)", x.now(0, 1, 7), 0);
-        Kit.due("47: now(0, 2, 7), 152000 by silence", x.now(0, 2, 7), 8);
-        Kit.due("47: now(0, 3, 7), 100000 by silence", x.now(0, 3, 7), 8);
-        Kit.due("47: now(0, 3, 6)", x.now(0, 3, 6), 1);
-        Kit.due("47: now(0, 3, 4), known: the least true one", x.now(0, 3, 4), 0);
-        Kit.due("47: now(1, 3, 7)", x.now(1, 3, 7), 1);
-        Kit.due("47: day 4", x.now(0, 4, 7), -2);
-        Kit.due("47: day -1", x.now(0, -1, 7), -2);
-        Kit.due("47: belief 0", x.now(0, 0, 0), -2);
-        Kit.due("47: belief 8", x.now(0, 0, 8), -2);
-        Kit.due("47: hearer 2", x.now(2, 0, 7), -2);
-        Kit.due("48: soon(0, 0)", x.soon(0, 0), 0);
-        Kit.due("48: soon(0, 1)", x.soon(0, 1), 252000);
-        Kit.due("48: soon(1, 1)", x.soon(1, 1), 0);
-        Kit.due("48: what 2", x.soon(0, 2), -2);
-        Kit.due("48: what -1", x.soon(0, -1), -2);
-        Kit.due("48: hearer 2", x.soon(2, 0), -2);
-        // no words: silence, and on day 1 by half a leak of 9900 less 4950 squared
-        GentleLetters y = Kit.told("desk states 2 really 1 days 2 heal 0 leak 50; grades 0 99; hearer thinks 1 1;");
-        Kit.due("46: (245025 and 100000) halved, cut", y.risk(0), 172512);
-        Kit.due("47: silence", y.now(0, 0, 3), 8);
-        GentleLetters z = Kit.told("desk states 2 really 1 days 1 heal 0 leak 100; grades 0 99; hearer thinks 1 1;");
-        Kit.due("46: no leak on day 0", z.risk(0), 100000);
-    }
-
-    private static void noDesk() {
-        GentleLetters x = new GentleLetters();
-        Kit.due("36: no desk", x.fewest(), -2);
-        Kit.due("41: no desk", x.unsaid(), -2);
-        Kit.due("42: no desk", x.idle(), -2);
-        Kit.due("46: no desk", x.risk(0), -2);
-        Kit.due("27: no desk", x.least(0), -2);
+    private static void fewest() {
+        says(36, "The fewest WORDS (SILENCE aside) of a WEEK of all days by which it is KNOWN.");
+        due("the sample: word 1", told(SAMPLE).fewest(), 1);
+        due("two words on two days", told(head(3, 1, 2, 0, 0) + TWO_WORDS).fewest(), 2);
+        due("two words on ten days", told(head(3, 1, 10, 0, 0) + TWO_WORDS).fewest(), 2);
+        due("seven words on seven days", told(head(8, 7, 7, 0, 0) + allButOne()).fewest(), 7);
+        due("hearers are not asked", told(head(2, 0, 1, 0, 0) + "word shame 0 of 0;").fewest(), 1);
+        says(36, "NONE: by none");
+        due("two words on one day", told(head(3, 1, 1, 0, 0) + TWO_WORDS).fewest(), -1);
+        due("seven words on six days", told(head(8, 7, 6, 0, 0) + allButOne()).fewest(), -1);
+        due("a state of no word alone", told(head(8, 6, 10, 0, 0) + allButOne()).fewest(), -1);
+        due("no words", told(head(2, 0, 5, 0, 0)).fewest(), -1);
+        says(36, "-2: there is no DESK.");
+        due("fewest()", new GentleLetters().fewest(), -2);
     }
 }
