@@ -53,6 +53,9 @@ public final class AtOnceTest extends Kit {
         due("from {0}: itself", x.calm(0, 1), 1);
         due("from {2}: all, not believed too", x.calm(0, 4), 7);
         due("from 9000", x.calm(1, 7), 7);
+        GentleLetters z = told(head(2, 0, 1, 0, 0) + "grades 50 0;hearer thinks 1 1;");
+        due("from 2500: not 5000, though it is the first", z.calm(0, 3), 2);
+        due("from {0}: both", z.calm(0, 1), 3);
         // 90 to 100 hurts by 1, 95 to 100 by nothing
         GentleLetters y = told(head(2, 0, 1, 0, 0) + "grades 0 1;hearer thinks 2 18;hearer thinks 1 19;");
         due("a rise of 10", y.calm(0, 3), 1);
@@ -61,7 +64,7 @@ public final class AtOnceTest extends Kit {
         due("belief 0", x.calm(0, 0), -2);
         due("belief 8", x.calm(0, 8), -2);
         due("belief -1", x.calm(0, -1), -2);
-        refusesHearers((z, hearer) -> z.calm(hearer, 7));
+        refusesHearers((w, hearer) -> w.calm(hearer, 7));
     }
 
     private static void shock() {
@@ -105,6 +108,8 @@ public final class AtOnceTest extends Kit {
         due("a lie told to one", told(apart + "hearer thinks 20 1 1;" + lie).idle(), 0);
         due("not to her who thinks so", told(apart + "hearer thinks 0 0 1;" + lie).idle(), 2);
         due("to one of both is enough", told(apart + "hearer thinks 0 0 1;hearer thinks 20 1 1;" + lie).idle(), 0);
+        due("the first is told to nobody", told(head(2, 1, 1, 0, 0) + "hearer thinks 1 1;word shame 0 of 0;word shame 0 of 1;")
+                .idle(), 1);
         due("no week: all", told(head(3, 1, 1, 0, 0) + "hearer thinks 1 1 1;word shame 1 of 0 1;word shame 1 of 1 2;").idle(), 3);
         due("no hearers: all", told(head(2, 0, 1, 0, 0) + "word shame 0 of 0;word shame 0 of 1;").idle(), 3);
         due("eight words", told(head(2, 0, 1, 0, 0) + "hearer thinks 1 1;" + "word shame 0 of 0;".repeat(8)).idle(), 254);

@@ -98,6 +98,8 @@ public final class LeastTest extends Kit {
         due("hearer 1", told(SAMPLE).least(1), 0);
         due("by a lie", lie(4, 0).least(0), TO_LIE + TO_TRUTH + 999);
         due("by a lie on ten days", lie(10, 0).least(0), TO_LIE + TO_TRUTH + 999);
+        due("the first state is so: 1600 to 8000", told(head(3, 0, 1, 0, 0) + "grades 80 0 10;hearer thinks 1 4 0;"
+                + "word shame 9 of 0;").least(0), 6400L * 6400 / 100);
         due("by a lie, half of the first healed", lie(2, 50).least(0), TO_LIE / 2 + TO_TRUTH + 999);
         says(27, "NONE: by no WEEK it is KNOWN");
         due("one day, two words", told(head(3, 1, 1, 0, 0) + TWO_WORDS).least(0), -1);
@@ -236,6 +238,11 @@ public final class LeastTest extends Kit {
         due("two words on ten days", told(head(3, 1, 10, 0, 0) + TWO_WORDS).fewest(), 2);
         due("seven words on seven days", told(head(8, 7, 7, 0, 0) + allButOne()).fewest(), 7);
         due("hearers are not asked", told(head(2, 0, 1, 0, 0) + "word shame 0 of 0;").fewest(), 1);
+        GentleLetters asked = told(head(8, 7, 7, 0, 0) + "hearer thinks 1 1 1 1 1 1 1 1;" + allButOne());
+        for (int belief = 1; belief <= 255; belief += 6) {
+            asked.now(0, 0, belief);
+        }
+        due("behind many other calls", asked.fewest(), 7);
         says(36, "NONE: by none");
         due("two words on one day", told(head(3, 1, 1, 0, 0) + TWO_WORDS).fewest(), -1);
         due("seven words on six days", told(head(8, 7, 6, 0, 0) + allButOne()).fewest(), -1);

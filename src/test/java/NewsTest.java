@@ -93,6 +93,10 @@ public final class NewsTest extends Kit {
         for (int i = 0; i < 6; i++) {
             due("six in four, news " + i, six.letter(4, i), rows[i]);
         }
+        GentleLetters turned = news(4, 10, "news bad 3;news bad 10;");
+        due("the worse one first: 70 and 7", turned.joined(2), 77);
+        due("the lesser one, told first, goes later", turned.letter(2, 0), 1);
+        due("the worse one", turned.letter(2, 1), 0);
         due("as many as days", news(1, 0, "news bad 9;news bad 9;").letter(4, 1), 0);
         says(54, "-2 likewise, no such NEWS.");
         due("n 0", x.letter(0, 0), -2);

@@ -114,6 +114,11 @@ public final class PlansTest extends Kit {
         due("0 1", x.ends(1), 12);
         due("0 3 1: {0}, then {2 3}", x.ends(2), 12);
         due("3 3 3 3 2", x.ends(3), 8);
+        due("one word", told(SAMPLE).ends(1), 1);
+        GentleLetters two = told(head(3, 0, 1, 0, 0) + "word shame 0 of 0 1;word shame 0 of 1 2;plan 0 1;plan 1;plan 1 0;");
+        due("{0 1}, {1 2}", two.ends(0), 2);
+        due("{1 2} alone", two.ends(1), 6);
+        due("{1 2}, {0 1}", two.ends(2), 2);
         says(52, "-2: there is none such.");
         due("plan 4", x.ends(4), -2);
         due("plan -1", x.ends(-1), -2);

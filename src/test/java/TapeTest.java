@@ -144,6 +144,18 @@ public final class TapeTest extends Kit {
         y.desk();
         due("she tells nobody", y.tells(0), 0);
         due("she does not reckon", y.thinks(1, -1), 0);
+        for (int turn = 0; turn < 3; turn++) {
+            type(y, turn == 1 ? HEAD : SAMPLE);
+            y.desk();
+            y.worsen(0, 7);
+        }
+        type(y, HEAD);
+        due("a fifth", y.desk(), 1);
+        for (int what = 0; what < counts.length; what++) {
+            due("of the fifth count(" + what + ")", y.count(what), counts[what]);
+        }
+        due("of the fifth grade(0)", y.grade(0), 0);
+        due("of the fifth grade(1)", y.grade(1), 0);
         says(4, ": how many LINES");
         stands(HEAD, 1);
         stands(HEAD + "grades 1 2;grades 1 2;", 3);
@@ -160,6 +172,15 @@ public final class TapeTest extends Kit {
         due("fewest()", z.fewest(), -2);
         due("undo()", z.undo(), -2);
         due("fault(0)", z.fault(0), 0);
+        for (int turn = 0; turn < 2; turn++) {
+            type(z, SAMPLE);
+            z.desk();
+        }
+        due("an empty tape behind two desks", z.desk(), 0);
+        for (int what = 0; what <= 12; what++) {
+            due("then count(" + what + ")", z.count(what), 0);
+        }
+        due("then news(0)", z.news(0), -1000);
         GentleLetters w = told(SAMPLE);
         type(w, " \n ");
         due("blanks alone", w.desk(), 0);

@@ -26,8 +26,14 @@ public final class TextTest extends Kit {
     private static void everyTokenCounts(String before, String line) {
         String[] tokens = line.split(" ");
         String left = before;
+        faulty(1, before + "^;");
         for (String token : tokens) {
             faulty(1, left + "^");
+            if (token.length() > 1) {
+                faulty(1, left + "^x" + token.substring(1) + " 1 1;");
+                faulty(1, left + "^" + token.substring(0, token.length() - 1) + "x 1 1;");
+                faulty(1, left + "^" + token.substring(1) + " 1 1;");
+            }
             faulty(1, left + "^x " + token);
             faulty(1, left + "^: " + token);
             left += token + " ";
@@ -91,6 +97,8 @@ public final class TextTest extends Kit {
 
     private static void firstLine() {
         term("I", "desk is the first LINE and no other");
+        faulty(1, "^xesk states 2 really 0 days 1 heal 0 leak 0;");
+        faulty(1, "^desx states 2 really 0 days 1 heal 0 leak 0;");
         String[] others = {"grades 0 0;", HEARER, WORD, "plan 0;", "news bad 1;", "tells 0 1;"};
         for (String other : others) {
             faulty(1, "^" + other + HEAD);
@@ -303,6 +311,11 @@ public final class TextTest extends Kit {
         faulty(1, HEAD + "^x;");
         faulty(1, HEAD + "^7;");
         faulty(1, HEAD + "^states 2;");
+        String[] words = {"grades 1 2", "hearer thinks 1 1", "word shame 0 of 0", "plan 0", "news bad 1", "tells 0 1"};
+        for (String word : words) {
+            faulty(1, HEAD + HEARER + HEARER + WORD + "^x" + word.substring(1) + ";");
+            faulty(1, HEAD + HEARER + HEARER + WORD + "^" + word.replaceFirst("\\w ", "x ") + ";");
+        }
         faulty(1, HEAD + "^tell 0 1;");
         faulty(1, HEAD + WORD + "plan 0 0 0 0 0 ^x;");
         term("I", "(desk behind the first LINE, another word ahead of it");

@@ -258,6 +258,15 @@ public final class WeeksTest extends Kit {
         for (int i = 0; i < 6; i++) {
             due("healed but on the last day: day " + i, turned.ordered(0, 0, i), last[i]);
         }
+        // each word leaves one state out more: told from the last to the first, each step is 500 and hurts 2500
+        GentleLetters back = told(head(7, 6, 6, 0, 0) + "grades 0 10 20 30 40 50 60;hearer thinks 1 1 1 1 1 1 1;"
+                + "word shame 0 of 6;word shame 0 of 5 6;word shame 0 of 4 5 6;word shame 0 of 3 4 5 6;"
+                + "word shame 0 of 2 3 4 5 6;word shame 0 of 1 2 3 4 5 6;");
+        fill(back, 0, 0, 0, 1, 2, 3, 4, 5);
+        due("six steps of 500", back.softer(0, 0), 6 * 2500);
+        for (int i = 0; i < 6; i++) {
+            due("the last of all orders: day " + i, back.ordered(0, 0, i), 5 - i);
+        }
         says(25, "NONE: there is none such");
         due("day 2 of two", x.ordered(0, 0, 2), -1);
         due("day -1", x.ordered(0, 0, -1), -1);

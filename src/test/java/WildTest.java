@@ -6,15 +6,16 @@ import java.util.ArrayList;
 import java.util.Comparator;
 import java.util.List;
 import java.util.Random;
+import java.util.Set;
 
 /** Calls by chance with any arguments in any state: none may throw, and none may make an object. */
-public final class WildTest {
+public final class WildTest extends Kit {
     private static final int[] EDGES = {
         Integer.MIN_VALUE, Integer.MIN_VALUE + 1, -1000, -2, -1, 0, 1, 2, 3, 4, 5, 6, 7, 8, 9, 10, 11, 15, 16, 20, 59, 60, 61,
         99, 100, 255, 256, 899, 900, 901, 10_000, 100_000, 2_000_000_000, 2_000_000_001, Integer.MAX_VALUE - 1, Integer.MAX_VALUE
     };
     /** The greatest desk that the bounds allow in most ways. */
-    private static final String GREAT =
+    static final String GREAT =
             "desk states 8 really 7 days 10 heal 3 leak 30;grades 0 1 5 20 40 60 80 99;"
             + "hearer thinks 20 9 7 5 4 3 2 1 reckons 2;hearer thinks 0 0 0 0 0 0 0 1;"
             + "hearer thinks 1 1 1 1 1 1 1 1 reckons 1;hearer thinks 1 2 3 4 5 6 7 8 reckons 5;"
@@ -28,6 +29,7 @@ public final class WildTest {
     public static void main(String[] args) throws IllegalAccessException {
         anyArguments();
         greatestDesk();
+        sameAgain();
         nothingMade();
         Kit.finish();
     }
@@ -89,6 +91,34 @@ public final class WildTest {
         Kit.due("unsaid of the great desk", x.unsaid(), 63);
         Kit.due("whom of the great desk", x.whom(), 1);
         Kit.due("all of the great desk", x.all(), 213L * 213 * 73 / 100);
+    }
+
+    /** What a call answers does not hang on the calls ahead of it, but for those that change something. */
+    private static void sameAgain() throws IllegalAccessException {
+        Set<String> changing = Set.of("feed", "end", "desk", "worsen", "really", "doubt", "undo", "image", "back", "row",
+                "write", "paste");
+        List<Method> methods = face();
+        methods.removeIf(method -> changing.contains(method.getName()));
+        GentleLetters asked = greatWithRows();
+        Random random = new Random(5);
+        for (int call = 0; call < 400; call++) {
+            Method method = methods.get(random.nextInt(methods.size()));
+            Object[] arguments = arguments(method, random);
+            try {
+                due("again " + method.getName() + List.of(arguments), (int) method.invoke(asked, arguments),
+                        (int) method.invoke(greatWithRows(), arguments));
+            } catch (InvocationTargetException thrown) {
+                due(method.getName() + List.of(arguments) + " threw " + thrown.getCause(), 1, 0);
+            }
+        }
+    }
+
+    private static GentleLetters greatWithRows() {
+        GentleLetters x = told(GREAT);
+        fill(x, 0, 0, 0, 1, 8, 7, 2);
+        fill(x, 1, 3, 8, 7, 6, 6, 7, 0, 1, 2, 3, 4);
+        fill(x, 2, 1);
+        return x;
     }
 
     /** All objects of a run live in one room, so that calls must not make any. */
