@@ -42,8 +42,8 @@ public final class GentleLetters {
     /** Above every cost of a week, and far enough below the greatest int to be added to. */
     private static final int NEVER = 1_000_000_000;
 
-    private final Tape tape = new Tape();
     private final DeskReader reader = new DeskReader();
+    private final Desk desk = new Desk();
     private final Desk[] images = new Desk[IMAGES];
     private final boolean[] imaged = new boolean[IMAGES];
     private final Row[] rows = new Row[SLOTS];
@@ -53,9 +53,6 @@ public final class GentleLetters {
     private final Planner planner = new Planner();
     private final Risks risks = new Risks();
     private final Letters letters = new Letters();
-    private Desk desk = new Desk();
-    /** The next text is read into this one, so that a fault leaves the desk as it is. */
-    private Desk spare = new Desk();
 
     public GentleLetters() {
         for (int k = 0; k < IMAGES; k++) {
@@ -69,6 +66,7 @@ public final class GentleLetters {
     // ---- the tape and the desk told by it ----
 
     public int feed(int a, int b, int c, int d, int e) {
+        Tape tape = reader.tape;
         if (tape.size > TAPE_BYTES - FEED_BYTES) {
             return NONE;
         }
@@ -81,21 +79,19 @@ public final class GentleLetters {
     }
 
     public int end(int n) {
-        if (n < 0 || n > tape.size) {
+        if (n < 0 || n > reader.tape.size) {
             return NONE;
         }
-        tape.size = n;
+        reader.tape.size = n;
         return n;
     }
 
     public int desk() {
-        if (!reader.readDesk(tape, spare)) {
+        if (!reader.readDesk()) {
             return FAULTY;
         }
-        Desk old = desk;
-        desk = spare;
-        spare = old;
-        tape.size = 0;
+        desk.copyFrom(reader.draft);
+        reader.tape.size = 0;
         return desk.lines;
     }
 
@@ -653,7 +649,7 @@ public final class GentleLetters {
             case 9:
                 return desk.lines;
             case 10:
-                return tape.size;
+                return reader.tape.size;
             case 11:
                 return desk.log.size;
             case 12:
@@ -669,7 +665,11 @@ public final class GentleLetters {
         if (k < 0 || k >= IMAGES) {
             return NO_SUCH;
         }
-        images[k].copyFrom(desk);
+        Desk kept = images[k];
+        if (kept == null) {
+            return NO_SUCH;
+        }
+        kept.copyFrom(desk);
         imaged[k] = true;
         return 0;
     }
@@ -678,10 +678,11 @@ public final class GentleLetters {
         if (k < 0 || k >= IMAGES) {
             return NO_SUCH;
         }
-        if (!imaged[k]) {
+        Desk kept = images[k];
+        if (kept == null || !imaged[k]) {
             return NOTHING;
         }
-        desk.copyFrom(images[k]);
+        desk.copyFrom(kept);
         return 0;
     }
 
@@ -694,7 +695,11 @@ public final class GentleLetters {
         if (n < 0) {
             return BELOW_ZERO;
         }
-        rows[slot].begin(width, n);
+        Row target = rows[slot];
+        if (target == null) {
+            return NO_SUCH;
+        }
+        target.begin(width, n);
         return 0;
     }
 
@@ -702,8 +707,8 @@ public final class GentleLetters {
         if (!isSlot(slot)) {
             return NO_SUCH;
         }
-        Row target = rows[slot];
-        if (!target.there) {
+        Row target = rowOf(slot);
+        if (target == null) {
             return NOTHING;
         }
         if (i < 0 || i >= target.size) {
@@ -717,9 +722,9 @@ public final class GentleLetters {
         if (!isSlot(slot) || !isSlot(to)) {
             return NO_SUCH;
         }
-        Row source = rows[slot];
-        Row target = rows[to];
-        if (!source.there || !target.there) {
+        Row source = rowOf(slot);
+        Row target = rowOf(to);
+        if (source == null || target == null) {
             return NOTHING;
         }
         if (source.width != target.width) {
@@ -738,6 +743,12 @@ public final class GentleLetters {
         return slot >= 0 && slot < SLOTS;
     }
 
+    /** The row of a slot; null for one that has nothing. */
+    private Row rowOf(int slot) {
+        Row found = isSlot(slot) ? rows[slot] : null;
+        return found != null && found.there ? found : null;
+    }
+
     private static boolean isSeed(int seed) {
         return seed >= 0 && seed <= MOST_SEED;
     }
@@ -747,10 +758,11 @@ public final class GentleLetters {
         if (!isSlot(slot) || !desk.stands()) {
             return NO_SUCH;
         }
-        if (!rows[slot].there) {
+        Row told = rowOf(slot);
+        if (told == null) {
             return NOTHING;
         }
-        if (!week.take(rows[slot], desk)) {
+        if (!week.take(told, desk)) {
             return NO_SUCH;
         }
         week.believe(desk);
@@ -831,7 +843,7 @@ public final class GentleLetters {
     private int countRows() {
         int there = 0;
         for (int slot = 0; slot < SLOTS; slot++) {
-            if (rows[slot].there) {
+            if (rowOf(slot) != null) {
                 there++;
             }
         }
@@ -923,31 +935,30 @@ public final class GentleLetters {
         }
     }
 
-    /** Reads a tape as a desk; its methods answer false once the first fault is noted. */
+    /** Reads its tape as a desk; its methods answer false once the first fault is noted. */
     private static final class DeskReader {
         private static final int MISPLACED = 1;
         private static final int OUT_OF_BOUNDS = 2;
         private static final int TOO_MANY = 3;
 
+        private final Tape tape = new Tape();
+        /** The text is read into this one, so that a fault leaves the desk as it is. */
+        private final Desk draft = new Desk();
         private int fault;
         private int place = NONE;
-        private Tape tape;
-        private Desk desk;
         private int value;
 
-        private boolean readDesk(Tape source, Desk into) {
-            tape = source;
-            desk = into;
+        private boolean readDesk() {
             fault = 0;
             place = NONE;
-            into.clear();
-            source.rewind();
+            draft.clear();
+            tape.rewind();
             // every line has a byte at least, so the tape's size bounds them
-            for (int i = 0; i < TAPE_BYTES && source.kind != Tape.AT_END; i++) {
+            for (int i = 0; i < TAPE_BYTES && tape.kind != Tape.AT_END; i++) {
                 if (!readLine() || !takeSemicolon()) {
                     return false;
                 }
-                into.lines++;
+                draft.lines++;
             }
             return true;
         }
@@ -998,23 +1009,23 @@ public final class GentleLetters {
         }
 
         private boolean readLine() {
-            if (desk.lines == 0) {
+            if (draft.lines == 0) {
                 return readHead();
             }
             if (tape.standsOn("grades")) {
                 return readGrades();
             }
             if (tape.standsOn("hearer")) {
-                return desk.hearers < MOST_HEARERS ? readHearer() : blame(TOO_MANY);
+                return draft.hearers < MOST_HEARERS ? readHearer() : blame(TOO_MANY);
             }
             if (tape.standsOn("word")) {
-                return desk.words < MOST_WORDS ? readWord() : blame(TOO_MANY);
+                return draft.words < MOST_WORDS ? readWord() : blame(TOO_MANY);
             }
             if (tape.standsOn("plan")) {
-                return desk.plans < MOST_PLANS ? readPlan() : blame(TOO_MANY);
+                return draft.plans < MOST_PLANS ? readPlan() : blame(TOO_MANY);
             }
             if (tape.standsOn("news")) {
-                return desk.news < MOST_NEWS ? readNews() : blame(TOO_MANY);
+                return draft.news < MOST_NEWS ? readNews() : blame(TOO_MANY);
             }
             return tape.standsOn("tells") ? readTells() : blame(MISPLACED);
         }
@@ -1023,33 +1034,33 @@ public final class GentleLetters {
             if (!takeWord("desk") || !takeNamed("states", 2, MOST_STATES)) {
                 return false;
             }
-            desk.states = value;
-            if (!takeNamed("really", 0, desk.states - 1)) {
+            draft.states = value;
+            if (!takeNamed("really", 0, draft.states - 1)) {
                 return false;
             }
-            desk.really = value;
+            draft.really = value;
             if (!takeNamed("days", 1, MOST_DAYS)) {
                 return false;
             }
-            desk.days = value;
+            draft.days = value;
             if (!takeNamed("heal", 0, 100)) {
                 return false;
             }
-            desk.heal = value;
+            draft.heal = value;
             if (!takeNamed("leak", 0, 100)) {
                 return false;
             }
-            desk.leak = value;
+            draft.leak = value;
             return true;
         }
 
         private boolean readGrades() {
             tape.advance();
-            for (int state = 0; state < desk.states; state++) {
+            for (int state = 0; state < draft.states; state++) {
                 if (!takeNumber(0, MOST_GRADE)) {
                     return false;
                 }
-                desk.grades[state] = value;
+                draft.grades[state] = value;
             }
             return true;
         }
@@ -1060,21 +1071,21 @@ public final class GentleLetters {
                 return false;
             }
             int sum = 0;
-            for (int state = 0; state < desk.states; state++) {
-                int low = sum == 0 && state == desk.states - 1 ? 1 : 0;
+            for (int state = 0; state < draft.states; state++) {
+                int low = sum == 0 && state == draft.states - 1 ? 1 : 0;
                 if (!takeNumber(low, MOST_THOUGHT)) {
                     return false;
                 }
                 sum += value;
-                desk.thoughts[desk.hearers * MOST_STATES + state] = value;
+                draft.thoughts[draft.hearers * MOST_STATES + state] = value;
             }
             if (tape.standsOn("reckons")) {
                 if (!takeNamed("reckons", 1, 5)) {
                     return false;
                 }
-                desk.reckonings[desk.hearers] = value;
+                draft.reckonings[draft.hearers] = value;
             }
-            desk.hearers++;
+            draft.hearers++;
             return true;
         }
 
@@ -1084,19 +1095,19 @@ public final class GentleLetters {
                 return false;
             }
             int shame = value;
-            if (!takeNamed("of", 0, desk.states - 1)) {
+            if (!takeNamed("of", 0, draft.states - 1)) {
                 return false;
             }
             int set = 1 << value;
             for (int i = 0; i < TAPE_BYTES && tape.kind == Tape.A_NUMBER; i++) {
-                if (!takeNumber(0, desk.states - 1)) {
+                if (!takeNumber(0, draft.states - 1)) {
                     return false;
                 }
                 set |= 1 << value;
             }
-            desk.shames[desk.words] = shame;
-            desk.meanings[desk.words] = set;
-            desk.words++;
+            draft.shames[draft.words] = shame;
+            draft.meanings[draft.words] = set;
+            draft.words++;
             return true;
         }
 
@@ -1104,18 +1115,18 @@ public final class GentleLetters {
             tape.advance();
             int size = 0;
             for (int i = 0; i < TAPE_BYTES && (size == 0 || tape.kind == Tape.A_NUMBER); i++) {
-                if (!findNumber(0, desk.words - 1)) {
+                if (!findNumber(0, draft.words - 1)) {
                     return false;
                 }
                 if (size >= MOST_PLAN_WORDS) {
                     return blame(TOO_MANY);
                 }
-                desk.planWords[desk.plans * MOST_PLAN_WORDS + size] = value;
+                draft.planWords[draft.plans * MOST_PLAN_WORDS + size] = value;
                 size++;
                 tape.advance();
             }
-            desk.planSizes[desk.plans] = size;
-            desk.plans++;
+            draft.planSizes[draft.plans] = size;
+            draft.plans++;
             return true;
         }
 
@@ -1125,24 +1136,24 @@ public final class GentleLetters {
             if (!takeNamed(good ? "good" : "bad", 1, 99)) {
                 return false;
             }
-            desk.tidings[desk.news] = good ? value : -value;
-            desk.news++;
+            draft.tidings[draft.news] = good ? value : -value;
+            draft.news++;
             return true;
         }
 
         private boolean readTells() {
             tape.advance();
-            if (!takeNumber(0, desk.hearers - 1)) {
+            if (!takeNumber(0, draft.hearers - 1)) {
                 return false;
             }
             int teller = value;
-            if (!findNumber(0, desk.hearers - 1)) {
+            if (!findNumber(0, draft.hearers - 1)) {
                 return false;
             }
             if (value == teller) {
                 return blame(OUT_OF_BOUNDS);
             }
-            desk.told[teller] |= 1 << value;
+            draft.told[teller] |= 1 << value;
             tape.advance();
             return true;
         }
@@ -1758,14 +1769,10 @@ public final class GentleLetters {
         private final int[] table = new int[(MOST_DAYS + 1) * BELIEFS];
         private final int[] firstRow = new int[MOST_DAYS];
         private int cost;
-        private Desk desk;
-        private Mind mind;
         private boolean gentle;
         private boolean honest;
 
-        private void solve(Desk ofDesk, Mind ofMind, Reach reach, boolean isGentle, boolean isHonest) {
-            desk = ofDesk;
-            mind = ofMind;
+        private void solve(Desk desk, Mind mind, Reach reach, boolean isGentle, boolean isHonest) {
             gentle = isGentle;
             honest = isHonest;
             for (int i = 0; i < reach.size; i++) {
@@ -1775,13 +1782,13 @@ public final class GentleLetters {
             for (int days = 1; days <= desk.days; days++) {
                 for (int i = 0; i < reach.size; i++) {
                     int belief = reach.beliefs[i];
-                    table[days * BELIEFS + belief] = leastFrom(days, belief);
+                    table[days * BELIEFS + belief] = leastFrom(desk, mind, days, belief);
                 }
             }
             int least = costWithDays(desk.days, desk.everything());
             cost = least == NEVER ? NONE : least;
             if (cost != NONE) {
-                findFirstRow();
+                findFirstRow(desk, mind);
             }
         }
 
@@ -1789,20 +1796,15 @@ public final class GentleLetters {
             return table[days * BELIEFS + belief];
         }
 
-        private int leastFrom(int days, int belief) {
-            int least = NEVER;
-            for (int choice = 0; choice <= desk.words; choice++) {
-                least = Math.min(least, costBy(wordOf(choice), days, belief));
+        private int leastFrom(Desk desk, Mind mind, int days, int belief) {
+            int least = costBy(desk, mind, SILENCE, days, belief);
+            for (int word = 0; word < desk.words; word++) {
+                least = Math.min(least, costBy(desk, mind, word, days, belief));
             }
             return least;
         }
 
-        /** Silence is the last choice of each day. */
-        private int wordOf(int choice) {
-            return choice < desk.words ? choice : SILENCE;
-        }
-
-        private int costBy(int word, int days, int belief) {
+        private int costBy(Desk desk, Mind mind, int word, int days, int belief) {
             if (honest && word != SILENCE && !desk.isTrue(word)) {
                 return NEVER;
             }
@@ -1822,14 +1824,14 @@ public final class GentleLetters {
          * The least word each day by which the best can still be had. A greatest hurt may be
          * reached on any day, so gently it bounds the whole row; a sum is spent day by day.
          */
-        private void findFirstRow() {
+        private void findFirstRow(Desk desk, Mind mind) {
             int belief = desk.everything();
             int bound = cost;
             for (int day = 0; day < desk.days; day++) {
                 int days = desk.days - day;
                 int word = SILENCE;
                 for (int choice = desk.words - 1; choice >= 0; choice--) {
-                    if (costBy(choice, days, belief) <= bound) {
+                    if (costBy(desk, mind, choice, days, belief) <= bound) {
                         word = choice;
                     }
                 }

@@ -11,7 +11,7 @@ import java.util.TreeSet;
 import java.util.regex.Matcher;
 import java.util.regex.Pattern;
 
-/** LANGUAGE.md, rules 4, 5, 8, 11 and 12, as far as the text and the class itself show them. */
+/** LANGUAGE.md, rules 4, 5, 7, 8, 11 and 12, as far as the text and the class itself show them. */
 public final class RulesTest extends Kit {
     private static final Path PROGRAM = Path.of("src/main/java/GentleLetters.java");
     private static final Set<String> LIBRARY = Set.of("Arrays.fill", "Integer.bitCount", "Integer.numberOfTrailingZeros",
@@ -110,6 +110,8 @@ public final class RulesTest extends Kit {
                         && field.getType() == int.class ? 1 : 0, 1);
             } else {
                 own++;
+                due("7: " + field + " is never null", field.getType().isPrimitive()
+                        || Modifier.isFinal(field.getModifiers()) ? 1 : 0, 1);
             }
         }
         due("11: fields of " + inside + ": " + own, own <= MOST_FIELDS ? 1 : 0, 1);
